@@ -143,11 +143,8 @@ public final class LawFromTheTree {
         if (!isCell(cell)) {
             return refuse(NOBODY);
         }
-        if (v < 0) {
-            return refuse(BELOW);
-        }
-        if (v > MOST_DIGIT) {
-            return refuse(ROOM);
+        if (!isWithin(v, 0, MOST_DIGIT)) {
+            return refuse(v < 0 ? BELOW : ROOM);
         }
         int was = now.heights[cell];
         now.setHeight(cell, v);
@@ -175,11 +172,8 @@ public final class LawFromTheTree {
         if (!isKind(kind) || !isVerdict(verdict)) {
             return refuse(OTHER);
         }
-        if (rank < 0) {
-            return refuse(BELOW);
-        }
-        if (rank > MOST_DIGIT) {
-            return refuse(ROOM);
+        if (!isWithin(rank, 0, MOST_DIGIT)) {
+            return refuse(rank < 0 ? BELOW : ROOM);
         }
         int was = 10 * now.verdicts[kind] + now.ranks[kind];
         now.decree(kind, verdict, rank);
@@ -187,11 +181,8 @@ public final class LawFromTheTree {
     }
 
     public int eyes(int v) {
-        if (v < 0) {
-            return refuse(BELOW);
-        }
-        if (v > MOST_EYES) {
-            return refuse(ROOM);
+        if (!isWithin(v, 0, MOST_EYES)) {
+            return refuse(v < 0 ? BELOW : ROOM);
         }
         int was = now.eyes;
         now.eyes = v;
@@ -205,11 +196,8 @@ public final class LawFromTheTree {
         if (!isKind(kind)) {
             return refuse(OTHER);
         }
-        if (figure < 0) {
-            return refuse(BELOW);
-        }
-        if (figure > MOST_DIGIT) {
-            return refuse(ROOM);
+        if (!isWithin(figure, 0, MOST_DIGIT)) {
+            return refuse(figure < 0 ? BELOW : ROOM);
         }
         int was = 10 * now.kinds[thing] + now.figures[thing];
         now.kinds[thing] = kind;
@@ -218,11 +206,8 @@ public final class LawFromTheTree {
     }
 
     public int hours(int n) {
-        if (n < 1) {
-            return refuse(BELOW);
-        }
-        if (n > MOST_HOURS || now.hour + n > LAST_HOUR) {
-            return refuse(ROOM);
+        if (!isWithin(n, 1, Math.min(MOST_HOURS, LAST_HOUR - now.hour))) {
+            return refuse(n < 1 ? BELOW : ROOM);
         }
         now.passHours(n);
         return now.hour;
@@ -252,11 +237,8 @@ public final class LawFromTheTree {
         if (!now.hasThing(thing)) {
             return refuse(NOBODY);
         }
-        if (n < 0) {
-            return refuse(BELOW);
-        }
-        if (n > MOST_HOURS) {
-            return refuse(ROOM);
+        if (!isWithin(n, 0, MOST_HOURS)) {
+            return refuse(n < 0 ? BELOW : ROOM);
         }
         return inMindBehind(n).places[thing];
     }
@@ -265,11 +247,8 @@ public final class LawFromTheTree {
         if (!isBranch(branch)) {
             return refuse(NOBODY);
         }
-        if (n < 0) {
-            return refuse(BELOW);
-        }
-        if (n > MOST_HOURS) {
-            return refuse(ROOM);
+        if (!isWithin(n, 0, MOST_HOURS)) {
+            return refuse(n < 0 ? BELOW : ROOM);
         }
         if (!isEither(what)) {
             return refuse(OTHER);
@@ -344,11 +323,8 @@ public final class LawFromTheTree {
         if (!isVerdict(verdict) || !isEither(what)) {
             return refuse(OTHER);
         }
-        if (n < 0) {
-            return refuse(BELOW);
-        }
-        if (n > MOST_HOURS_WEIGHED) {
-            return refuse(ROOM);
+        if (!isWithin(n, 0, MOST_HOURS_WEIGHED)) {
+            return refuse(n < 0 ? BELOW : ROOM);
         }
         int best = 0;
         int most = -1;
@@ -469,11 +445,8 @@ public final class LawFromTheTree {
         if (!now.hasThing(a) || !now.hasThing(b) || a == b) {
             return refuse(NOBODY);
         }
-        if (n < 0) {
-            return refuse(BELOW);
-        }
-        if (n > MOST_HOURS_WEIGHED) {
-            return refuse(ROOM);
+        if (!isWithin(n, 0, MOST_HOURS_WEIGHED)) {
+            return refuse(n < 0 ? BELOW : ROOM);
         }
         for (int first = 0; first <= 1; first++) {
             for (int second = 0; second <= 1; second++) {
@@ -563,11 +536,8 @@ public final class LawFromTheTree {
     }
 
     public int lots(int n, int z, int what) {
-        if (n < 1) {
-            return refuse(BELOW);
-        }
-        if (n > MOST_TERMS) {
-            return refuse(ROOM);
+        if (!isWithin(n, 1, MOST_TERMS)) {
+            return refuse(n < 1 ? BELOW : ROOM);
         }
         if (!isEither(what)) {
             return refuse(OTHER);
@@ -635,8 +605,8 @@ public final class LawFromTheTree {
     }
 
     private int refusalsOf(int what) {
-        boolean told = what > COUNT_OF_REFUSALS && what <= COUNT_OF_REFUSALS + REFUSAL_NUMBERS;
-        return told ? refusals[what - COUNT_OF_REFUSALS] : NONE;
+        boolean isTold = isWithin(what, COUNT_OF_REFUSALS + 1, COUNT_OF_REFUSALS + REFUSAL_NUMBERS);
+        return isTold ? refusals[what - COUNT_OF_REFUSALS] : NONE;
     }
 
     private Land inMind() {
@@ -774,24 +744,28 @@ public final class LawFromTheTree {
         return NONE;
     }
 
+    private static boolean isWithin(int number, int least, int greatest) {
+        return number >= least && number <= greatest;
+    }
+
     private static boolean isCell(int cell) {
-        return cell >= 0 && cell < CELLS;
+        return isWithin(cell, 0, CELLS - 1);
     }
 
     private static boolean isBranch(int branch) {
-        return branch >= 0 && branch < BRANCHES;
+        return isWithin(branch, 0, BRANCHES - 1);
     }
 
     private static boolean isKind(int kind) {
-        return kind >= 0 && kind < KINDS;
+        return isWithin(kind, 0, KINDS - 1);
     }
 
     private static boolean isVerdict(int verdict) {
-        return verdict >= NOTHING && verdict <= FREE;
+        return isWithin(verdict, NOTHING, FREE);
     }
 
     private static boolean isEither(int what) {
-        return what == 0 || what == 1;
+        return isWithin(what, 0, 1);
     }
 
     private static int sumOf(int[] many) {
@@ -855,7 +829,7 @@ public final class LawFromTheTree {
         }
 
         boolean hasThing(int thing) {
-            return thing >= 0 && thing < things;
+            return isWithin(thing, 0, things - 1);
         }
 
         boolean isHidden(int thing) {
@@ -1111,13 +1085,14 @@ public final class LawFromTheTree {
             if (at < 0 || at >= shape.length()) {
                 return false;
             }
-            switch (shape.charAt(at)) {
+            int due = shape.charAt(at);
+            switch (due) {
                 case 'k':
                     return kindAt(place) != NOWHERE;
                 case '0':
-                    return signs[place] >= '0' && signs[place] <= '9';
+                    return isWithin(digitAt(place), 0, MOST_DIGIT);
                 default:
-                    return signs[place] == shape.charAt(at);
+                    return signs[place] == due;
             }
         }
 
@@ -1187,7 +1162,7 @@ public final class LawFromTheTree {
         }
 
         private static boolean tellEyes(Land land, int eyes) {
-            boolean right = eyes <= MOST_EYES;
+            boolean right = isWithin(eyes, 0, MOST_EYES);
             if (right) {
                 land.eyes = eyes;
             }
@@ -1211,7 +1186,7 @@ public final class LawFromTheTree {
         }
 
         private static boolean tellHours(Land land, int n) {
-            boolean right = n >= 1 && n <= MOST_HOURS && land.hour + n <= LAST_HOUR;
+            boolean right = isWithin(n, 1, Math.min(MOST_HOURS, LAST_HOUR - land.hour));
             if (right) {
                 land.passHours(n);
             }

@@ -186,6 +186,10 @@ public final class OddsTest {
         CHECK.due("lots(20, 7, 1)", law.lots(20, 7, 1), seen);
         CHECK.due("lots again", law.lots(20, 7, 1), seen);
         CHECK.due("the horse stayed", law.thing(0, 2), 0);
+        law.decrees(2, 2, 5);
+        CHECK.due("free isn't guilty", law.lots(20, 7, 0), 0);
+        CHECK.due("but seen", law.lots(20, 7, 1), seen);
+        CHECK.due("one term", law.lots(1, 7, 1), firstDraw(7) < 8 ? 1 : 0);
         branchesByLot();
         CHECK.due("lots(0, 0, 2)", law.lots(0, 0, 2), -4);
         CHECK.due("lots(21, 0, 2)", law.lots(21, 0, 2), -6);
@@ -206,6 +210,10 @@ public final class OddsTest {
         }
         CHECK.due("lots with a seed below 0", law.lots(15, -123456789, 0), guilty);
         CHECK.due("lots: the hidden draws, unseen", law.lots(15, -123456789, 1), guilty);
+    }
+
+    private static int firstDraw(int z) {
+        return draw(new int[] {z}, 16);
     }
 
     private static int draw(int[] z, int below) {

@@ -25,6 +25,8 @@ public final class SearchTest {
         CHECK.due("nothing: from below", law.best(0, 30, 0), 0);
         // Behind the hill in cells 6 .. 15 by hours 3 .. 12, and 19 .. 28.
         CHECK.due("nothing: how many", law.best(0, 30, 1), 20);
+        CHECK.due("now alone", law.best(1, 0, 1), 1);
+        CHECK.due("never now", law.best(0, 0, 1), 0);
         CHECK.due("never: the least", law.best(2, 30, 0), 0);
         CHECK.due("never: 0", law.best(2, 30, 1), 0);
         CHECK.due("best(3, -1, 0)", law.best(3, -1, 0), -2);
@@ -68,6 +70,11 @@ public final class SearchTest {
         CHECK.due("no hill", law.hill(0, 0), -9);
         law.heaps(3, 3);
         CHECK.due("from above it", law.hill(4, 0), -9);
+        law.heaps(3, 0);
+        law.heaps(0, 4);
+        CHECK.due("cell 0 in the way", law.hill(0, 0), 0);
+        law.heaps(0, 0);
+        law.heaps(3, 3);
         law.drives(1, 3);
         law.turn(1, 0, 0);
         CHECK.due("it would lose one and win two", law.hill(0, 0), 3);
@@ -112,14 +119,20 @@ public final class SearchTest {
         CHECK.due("never", law.hide(1), -9);
         CHECK.due("hide(3)", law.hide(3), -2);
         CHECK.due("hide(-1)", law.hide(-1), -2);
-        // Hiding 0, or 1 and 2: the fewest, though 0b110 isn't the least number either.
+        // Of one rank smoke goes before washing, so the tree alone must go.
         LawFromTheTree few = Check.told("tt100;ts100;tw000;vt15;vs24;vw14;");
         CHECK.due("the one of rank 5", few.hide(2), 0b001);
-        // 2 must go, or both of 0 and 1: one is fewer, though its bits are more.
+        // The horses may stay, whatever their bits are.
         LawFromTheTree fewer = Check.told("th100;th101;tt102;vh12;vt23;");
-        CHECK.due("fewest, not least", fewer.hide(1), 0b100);
+        CHECK.due("the tree alone", fewer.hide(1), 0b100);
         LawFromTheTree apart = Check.told("c019;tt200;tt202;vt11;");
         CHECK.due("from each branch", apart.hide(0), 0b01);
+        LawFromTheTree far = Check.told("c015;tt200;tt202;vt11;");
+        CHECK.due("from branch 6 on too", far.hide(0), 0b11);
+        LawFromTheTree seven = Check.told("tt100;".repeat(7) + "vt11;");
+        CHECK.due("all seven", seven.hide(0), 0b1111111);
+        CHECK.due("nothing to hide", new LawFromTheTree().hide(0), 0);
+        CHECK.due("nobody to be guilty", new LawFromTheTree().hide(1), -9);
     }
 
     private static void eyesBest() {
@@ -211,10 +224,10 @@ public final class SearchTest {
         // The tree is hidden at 15, driven round to 0 it's seen; the horse of 4 is gone behind 2.
         CHECK.due("the second drives round", law.two(0, 1, 2), 1);
         law.drives(0, 15);
-        // Driven round both, behind 0 hours: guilty goes before free.
-        CHECK.due("both drive", law.two(0, 1, 0), 10);
+        // Each comes in sight if driven round: by rank guilty goes before free.
+        CHECK.due("the horse decides: the first drives", law.two(0, 1, 0), 10);
         law.decrees(2, 1, 0);
-        CHECK.due("both drive, the tree decides", law.two(0, 1, 0), 1);
+        CHECK.due("the tree decides: the second drives", law.two(0, 1, 0), 1);
         CHECK.due("nothing was driven", law.thing(0, 2), 15);
         CHECK.due("two(0, 0, -1)", law.two(0, 0, -1), -1);
         CHECK.due("two(2, 0, 0)", law.two(2, 0, 0), -1);
@@ -222,6 +235,25 @@ public final class SearchTest {
         CHECK.due("two(-1, 0, 0)", law.two(-1, 0, 0), -1);
         CHECK.due("two(0, 1, -1)", law.two(0, 1, -1), -4);
         CHECK.due("two(0, 1, 31)", law.two(0, 1, 31), -6);
-        CHECK.due("two(0, 1, 30)", law.two(0, 1, 30) >= -9 ? 1 : 0, 1);
+        twoBehindThirtyHours();
+    }
+
+    private static void twoBehindThirtyHours() {
+        // Cell 1 hides what is behind it from all branches; behind 30 hours a horse is 2 cells back.
+        LawFromTheTree law = Check.told("c019;th003;tt101;vh13;vt22;");
+        CHECK.due("in 1, driven in 2", law.two(0, 1, 30), 0);
+        law.drives(0, 2);
+        CHECK.due("seen either way", law.two(0, 1, 30), 0);
+        law.drives(0, 4);
+        CHECK.due("never seen: the tree stays in sight", law.two(0, 1, 30), 0);
+        law.drives(1, 15);
+        CHECK.due("never seen: the tree comes in sight", law.two(0, 1, 30), 1);
+        law.drives(0, 1);
+        CHECK.due("in 15, driven in 0", law.two(0, 1, 30), 10);
+        law.decrees(2, 1, 1);
+        CHECK.due("both come in sight, the tree decides", law.two(0, 1, 30), 1);
+        // The guilty thing is the second's to drive, the free one the first's: each hides his own.
+        LawFromTheTree crossed = Check.told("c019;tt101;th001;vh13;vt22;");
+        CHECK.due("each out of sight", crossed.two(0, 1, 0), 11);
     }
 }

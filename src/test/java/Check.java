@@ -1,6 +1,7 @@
 /** Compares answers with those that are due, and tells lands. */
 final class Check {
     private final String name;
+    private String sentence = "";
     private int wrong;
     private int asked;
 
@@ -8,12 +9,25 @@ final class Check {
         this.name = name;
     }
 
+    /** What follows tests this sentence of the document, which must have it word by word. */
+    void sentence(String quote) {
+        sentence = quote;
+        holds("the document has the quote", !Document.isThere() || Document.has(quote));
+    }
+
     void due(String call, long got, long want) {
         asked++;
         if (got != want) {
             wrong++;
             System.out.println(name + ": " + call + " answered " + got + ", due is " + want);
+            if (!sentence.isEmpty()) {
+                System.out.println("    \"" + sentence + "\"");
+            }
         }
+    }
+
+    void holds(String what, boolean is) {
+        due(what, is ? 1 : 0, 1);
     }
 
     void end() {
@@ -39,6 +53,16 @@ final class Check {
                 System.out.println("the test's own land is wrong: " + text + ": " + answer);
                 System.exit(1);
             }
+        }
+        return law;
+    }
+
+    /** A new object at hour 999, to which a land has been told then. */
+    static LawFromTheTree toldAtTheLastHour(String text) {
+        LawFromTheTree law = told("h60;".repeat(16) + "h39;");
+        if (tell(law, text) < 1) {
+            System.out.println("the test's own land is wrong: " + text);
+            System.exit(1);
         }
         return law;
     }

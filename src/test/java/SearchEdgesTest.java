@@ -130,6 +130,11 @@ public final class SearchEdgesTest {
         CHECK.due("of several the least", two.hill(0, 0), 2);
         two.hides(0);
         CHECK.due("the other", two.hill(0, 0), 5);
+        // What stands on the hill is as high above height 0 as above the hill: 1 is seen, 0 no more.
+        LawFromTheTree upon = Check.told("c033;tt103;tt104;");
+        CHECK.due("one of 1 on the hill stays in sight", upon.hill(0, 0), 3);
+        upon.turn(0, 0, 0);
+        CHECK.due("one of 0 on the hill is lost for one won", upon.hill(0, 0), -9);
         // Two hills hide one thing: neither alone lets it be seen.
         LawFromTheTree both = Check.told("c023;c053;tt106;");
         CHECK.due("not more than as it is", both.hill(0, 0), -9);
@@ -151,6 +156,9 @@ public final class SearchEdgesTest {
         CHECK.due("nothing is ahead of cell 0", first.hill(9, 1), -9);
         LawFromTheTree nobody = Check.told("tt000;");
         CHECK.due("none is seen as it is", nobody.hill(9, 1), -9);
+        // What stands on a heap of 9 is above it by as much as it is high.
+        LawFromTheTree upon = Check.told("c005;tt001;tt102;");
+        CHECK.due("from 6: heaping 1 shows one and hides one", upon.hill(6, 1), 0);
         LawFromTheTree high = Check.told("tt915;ts915;h01;");
         CHECK.due("a top of 9 is hidden, one of 10 isn't", high.hill(9, 1), 0);
         high.hides(0);
